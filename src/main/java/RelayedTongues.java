@@ -789,7 +789,7 @@ public final class RelayedTongues {
     }
 
     private static boolean hasBit(int mask, int bit) {
-        return (mask >> bit & 1) == 1;
+        return ((mask >> bit) & 1) == 1;
     }
 
     private Text textAt(int text) {
@@ -891,7 +891,7 @@ public final class RelayedTongues {
         for (int i = 0; i < within.size; i++) {
             if (i != place) {
                 int mask = maskOfSign(within.signs[i], tongue);
-                sum += Integer.bitCount(mask & FIELD_BITS << FIELD * field);
+                sum += Integer.bitCount(mask & (FIELD_BITS << (FIELD * field)));
             }
         }
         return sum;
@@ -1125,7 +1125,7 @@ public final class RelayedTongues {
             Sentence within = asked.sentences.get(i);
             for (int place = 0; place < within.size; place++) {
                 int sign = within.signs[place];
-                if (isParticle(sign, asked.tongue) && (wordBits >> sign & 1L) == 1L) {
+                if (isParticle(sign, asked.tongue) && ((wordBits >> sign) & 1L) == 1L) {
                     sum++;
                 }
             }

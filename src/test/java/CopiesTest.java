@@ -172,6 +172,8 @@ public final class CopiesTest {
         check.due("the parent is of the other one", 21, () -> land.parentOf(4, 1));
         check.due("where it comes from", 1, () -> land.comesFrom(4, 1));
         check.due("it lies where the revised one lies", 1, () -> land.lies(4, 115));
+        check.dueThrow("a revision is no original", UNSUPPORTED, () -> land.isKnown(1, 4, 0, 115));
+        check.dueThrow("nor to be added to", UNSUPPORTED, () -> land.say(4, 0, 0));
         check.due("revise", 5, () -> land.revise(4, 3, 0, 120, 0));
         check.due("nothing to mend: it stays", "1= 0=", () -> line(land, 5, 1));
         check.due("and comes from the revised one", 41, () -> land.parentOf(5, 1));

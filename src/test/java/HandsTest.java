@@ -10,6 +10,7 @@ public final class HandsTest {
         Check check = new Check();
         signed(check);
         likeness(check);
+        leftStanding(check);
         hand(check);
         check.end();
     }
@@ -107,6 +108,27 @@ public final class HandsTest {
         check.dueThrow("words left standing are no particles", NONE, () -> land.likeness(standing, 0));
         land.sense(0, 2, 3);
         check.dueThrow("the first sense counts", NONE, () -> land.likeness(none, 0));
+    }
+
+    /** Words left standing in what is signed are no words of its tongue, whatever their numbers. */
+    private static void leftStanding(Check check) {
+        RelayedTongues land = land();
+        for (int i = 3; i < 40; i++) {
+            land.word(1, 2);
+        }
+        land.word(0, 29);
+        land.translator(0, 'w');
+        teachAll(land, 0);
+        int source = text(land, 3);
+        int asked = land.original(1, 100, 0);
+        land.sentence(asked, 'p');
+        for (int word : new int[] {39, 36, 3}) {
+            land.say(asked, word, 0);
+        }
+        int standing = land.translate(source, 0, 1, 100, 0);
+        check.due("left standing", 103, () -> land.signAt(standing, 0, 0));
+        land.signed(standing);
+        check.due("likeness", 0, () -> land.likeness(asked, 0));
     }
 
     private static void hand(Check check) {

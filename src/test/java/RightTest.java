@@ -66,6 +66,10 @@ public final class RightTest {
         check.due("it is right", true, () -> land.isRight(1, 0, 0));
         check.due("the number is right", true, () -> land.isRight(1, 0, 1));
         check.due("no losses", 0, () -> land.losses(1));
+        land.original(0, 100, 0);
+        land.sentence(2, 'p');
+        land.count(2, 0);
+        check.due("0 is a number too", true, () -> land.isRight(2, 0, 0));
         check.due("share", 1.0f, () -> land.rightShare());
     }
 

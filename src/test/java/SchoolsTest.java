@@ -62,6 +62,12 @@ public final class SchoolsTest {
         check.due("another sense", -1, () -> land.gloss(0, 1, 29, 0, 2000));
         check.due("another school", -1, () -> land.gloss(1, 1, 3, 1, 2000));
         check.due("another tongue", -1, () -> land.gloss(0, 0, 3, 0, 2000));
+        check.due("what was told for the sense 29", 0, () -> land.glossed(0, 1, 29, 2000));
+        check.due("what was told of tongue 1", 1, () -> land.glossed(0, 1, 3, 2000));
+        check.due("in one year of tongue 1", 1, () -> land.gloss(0, 1, 3, 1, 2000));
+        check.due("and of another sense of it", 0, () -> land.gloss(0, 1, 29, 0, 2000));
+        check.due("which leaves the first", 1, () -> land.glossed(0, 1, 3, 2000));
+        check.due("and that of tongue 0", 0, () -> land.glossed(0, 0, 3, 2000));
         check.due("glossed then", 0, () -> land.glossed(0, 1, 3, 100));
         check.due("glossed till then", 0, () -> land.glossed(0, 1, 3, 199));
         check.due("glossed from then on", 1, () -> land.glossed(0, 1, 3, 200));

@@ -11,7 +11,10 @@ public final class WitnessTest {
         Check check = new Check();
         likely(check);
         withoutWords(check);
+        otherSentences(check);
+        manyWitnesses(check);
         stands(check);
+        lastWordStanding(check);
         check.end();
     }
 
@@ -89,6 +92,70 @@ public final class WitnessTest {
         land.word(0, 5);
         check.due("likely", 0, () -> land.likely(0, 0, 0));
         check.due("cost", 1, () -> land.cost(0, 0, 0));
+    }
+
+    private static void otherSentences(Check check) {
+        RelayedTongues land = land();
+        land.say(0, 1, 0);
+        land.sentence(0, 'p');
+        land.say(0, 2, 0);
+        land.original(0, 100, 0);
+        land.sentence(1, 'p');
+        land.say(1, 2, 0);
+        land.skill(0, 0, 1, 9);
+        land.translate(0, 0, 1, 100, 0);
+        land.translate(1, 0, 1, 100, 0);
+        check.due("sentence 0", 0, () -> land.likely(0, 0, 0));
+        check.due("all is explained", 0, () -> land.cost(0, 0, 0));
+        check.due("sentence 1", 2, () -> land.likely(0, 1, 0));
+        check.due("all is explained", 0, () -> land.cost(0, 1, 0));
+        check.due("another original", 2, () -> land.likely(1, 0, 0));
+        check.due("all is explained", 0, () -> land.cost(1, 0, 0));
+    }
+
+    /** Volumes can have one sentence eight times. */
+    private static void manyWitnesses(Check check) {
+        RelayedTongues land = land();
+        for (int i = 1; i < 8; i++) {
+            land.sentence(0, 'p');
+        }
+        land.count(0, 5);
+        land.original(1, 100, 0);
+        int all = land.translate(0, 0, 1, 100, 0);
+        int volume = land.bind(1, all, 7, 100);
+        int heard = 1 + 1;
+        for (int k = 1; k < 8; k++) {
+            int tail = land.bind(1, all, 7 - k, 100);
+            volume = land.bind(volume, tail, k, 100);
+            heard += 1 + k + 1;
+        }
+        int eightfold = volume;
+        check.due("sentences", 8, () -> land.sentences(eightfold));
+        for (int text = eightfold + 1; text < 30; text++) {
+            land.copy(eightfold, 100, 0, 0);
+            heard += 8;
+        }
+        check.due("each is a witness, and none is explained", heard, () -> land.cost(0, 7, 0));
+    }
+
+    private static void lastWordStanding(Check check) {
+        RelayedTongues land = new RelayedTongues();
+        land.city();
+        land.school('l');
+        land.translator(0, 'w');
+        for (int i = 0; i < 40; i++) {
+            land.word(3, 7);
+        }
+        land.original(3, 100, 0);
+        land.sentence(0, 'p');
+        land.say(0, 39, 0);
+        land.skill(0, 3, 0, 9);
+        land.translate(0, 0, 0, 100, 0);
+        check.due("the greatest sign of a word", 439, () -> land.signAt(1, 0, 0));
+        check.due("stands", 439, () -> land.stands(3, 39, 0));
+        check.due("times", 1, () -> land.times(3, 39, 0));
+        check.due("right", true, () -> land.isRight(1, 0, 0));
+        check.due("read", 7, () -> land.read(1, 0, 0, 0, 100));
     }
 
     private static void stands(Check check) {
