@@ -411,6 +411,7 @@ public final class RelayedTongues {
             throw new IllegalStateException("there are 30 texts");
         }
         Text made = new Text(false, revised.tongue, year, revised.cityIn(year));
+        made.translator = translator;
         Rendering pass = new Rendering(writer, source.tongue, revised.tongue, year, new Draws(seed));
         for (int i = 0; i < revised.sentences.size(); i++) {
             Sentence old = revised.sentences.get(i);

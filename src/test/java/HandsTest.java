@@ -9,6 +9,7 @@ public final class HandsTest {
     public static void main(String[] args) {
         Check check = new Check();
         signed(check);
+        signedRevision(check);
         likeness(check);
         leftStanding(check);
         hand(check);
@@ -60,16 +61,39 @@ public final class HandsTest {
         land.copy(1, 100, 0, 0);
         land.bind(1, 2, 0, 100);
         land.revise(1, 0, 0, 100, 0);
-        check.dueThrow("text 7", BOUNDS, () -> land.signed(7));
+        land.revise(1, 0, 1, 100, 0);
+        check.dueThrow("text 8", BOUNDS, () -> land.signed(8));
         check.dueThrow("text -1", BOUNDS, () -> land.signed(-1));
         check.dueThrow("an original", UNSUPPORTED, () -> land.signed(0));
         check.dueThrow("a copy", UNSUPPORTED, () -> land.signed(4));
         check.dueThrow("a volume", UNSUPPORTED, () -> land.signed(5));
-        check.dueThrow("a revision", UNSUPPORTED, () -> land.signed(6));
         check.due("a translation", 1, () -> land.signed(1));
         check.dueThrow("again", UNSUPPORTED, () -> land.signed(1));
         check.due("a relay, for its writer", 1, () -> land.signed(2));
         check.due("the other one", 2, () -> land.signed(3));
+        check.due("a revision, for its translator", 3, () -> land.signed(6));
+        check.dueThrow("a revision again", UNSUPPORTED, () -> land.signed(6));
+        check.due("a revision of what another one translated", 2, () -> land.signed(7));
+    }
+
+    /** A revision that kept every sentence counts for its translator too; a copy of it has none. */
+    private static void signedRevision(Check check) {
+        RelayedTongues land = land();
+        land.translator(0, 'w');
+        land.translator(0, 'w');
+        teachAll(land, 0);
+        int source = text(land, 0, 1);
+        int first = land.translate(source, 0, 1, 100, 0);
+        int kept = land.revise(first, source, 1, 100, 0);
+        int copy = land.copy(kept, 100, 0, 0);
+        check.due("nothing was rendered anew", 10 * first, () -> land.parentOf(kept, 0));
+        check.dueThrow("a copy of a revision", UNSUPPORTED, () -> land.signed(copy));
+        check.due("not yet", 0, () -> land.likeness(first, 1));
+        check.due("signed", 1, () -> land.signed(kept));
+        check.due("its words count for the reviser", 1000, () -> land.likeness(first, 1));
+        check.due("not for who translated first", 0, () -> land.likeness(first, 0));
+        check.due("the hand", 1, () -> land.hand(copy));
+        check.due("itself aside", 0, () -> land.likeness(kept, 1));
     }
 
     private static void likeness(Check check) {

@@ -528,6 +528,7 @@ public final class Oracle {
         Book old = books.get(text);
         Book by = books.get(other);
         Book made = begin(old.tongue, year, town(old, year));
+        made.signer = translator;
         for (int i = 0; i < old.lines.size(); i++) {
             boolean bad = false;
             for (char letter : old.lines.get(i).letters) bad |= "oxvnml.".indexOf(letter) >= 0;
