@@ -1,4 +1,5 @@
 import java.io.IOException;
+import java.lang.reflect.Method;
 import java.nio.file.Files;
 import java.nio.file.Path;
 import java.util.ArrayList;
@@ -10,7 +11,8 @@ import java.util.stream.Stream;
 
 /**
  * The runs of src/test/runs. Each case quotes what of the document it tests; and each sentence of the section "Terms",
- * each "Throws", each "Returns" and each parameter with a bound has to be quoted by a case.
+ * each "Throws", each "Returns" and each parameter with a bound has to be quoted by a case. A case that quotes a
+ * "Throws" has to have a call which is refused so; and each parameter has to be given its least and its greatest value.
  */
 public final class RunsTest {
     private static final Path RUNS = Path.of("src/test/runs");
@@ -28,6 +30,7 @@ public final class RunsTest {
         test.readRuns();
         test.runAll();
         test.lookForUntested();
+        test.lookForExtremes();
         System.exit(test.wrong == 0 ? 0 : 1);
     }
 
@@ -61,6 +64,37 @@ public final class RunsTest {
             }
         }
         System.out.println(sentences + " sentences of the document are to be tested");
+    }
+
+    /** The least and the greatest value has to be given wherever one is taken. */
+    private void lookForExtremes() {
+        for (Method method : RelayedTongues.class.getMethods()) {
+            if (method.getDeclaringClass() != RelayedTongues.class) {
+                continue;
+            }
+            Class<?>[] types = method.getParameterTypes();
+            for (int place = 0; place < types.length; place++) {
+                for (String extreme : extremes(types[place])) {
+                    lookFor(method.getName(), place, extreme);
+                }
+            }
+        }
+    }
+
+    private static List<String> extremes(Class<?> type) {
+        if (type == boolean.class) {
+            return List.of("false", "true");
+        }
+        return type == char.class ? List.of("char0", "char65535") : List.of("min", "max");
+    }
+
+    private void lookFor(String method, int place, String argument) {
+        for (Script script : scripts) {
+            if (script.hasGiven(method, place, argument)) {
+                return;
+            }
+        }
+        complain("no case gives " + method + " at place " + place + " " + argument);
     }
 
     // ---- the document ----
@@ -136,7 +170,7 @@ public final class RunsTest {
                     scripts.add(script);
                 }
                 script.quotes.add(line.substring(3));
-                quote(name, line.substring(3));
+                quote(script, line.substring(3));
             } else if (line.startsWith("use ")) {
                 target.addAll(beginnings.getOrDefault(line.substring(4), List.of("nothing " + line)));
             } else {
@@ -145,7 +179,7 @@ public final class RunsTest {
         }
     }
 
-    private void quote(String file, String told) {
+    private void quote(Script script, String told) {
         int end = told.indexOf(": ");
         String part = end < 0 ? told : told.substring(0, end);
         String words = end < 0 ? "" : told.substring(end + 2);
@@ -154,10 +188,11 @@ public final class RunsTest {
             if (sentence.getKey().contains(words)) {
                 found++;
                 sentence.setValue(sentence.getValue() + 1);
+                script.addDueRefusal(part, sentence.getKey());
             }
         }
         if (found == 0) {
-            complain(file + ": the document does not say " + told);
+            complain(script.file + ": the document does not say " + told);
         }
     }
 }

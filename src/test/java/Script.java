@@ -1,7 +1,9 @@
 import java.lang.reflect.InvocationTargetException;
 import java.lang.reflect.Method;
 import java.util.ArrayList;
+import java.util.HashSet;
 import java.util.List;
+import java.util.Set;
 import java.util.regex.Matcher;
 import java.util.regex.Pattern;
 
@@ -19,9 +21,13 @@ final class Script {
     final List<String> lines = new ArrayList<>();
     private final RelayedTongues land = new RelayedTongues();
     private final RelayedTongues twin = new RelayedTongues();
+    // Which argument was given at which place of which method.
+    private final Set<String> given = new HashSet<>();
     private int refused = 0;
     private int answered = 0;
     private int wrong = 0;
+    // What has to be refused in this case, as a method and an exception.
+    private final List<String[]> dueRefusals = new ArrayList<>();
     // The land as it was behind the last refused call, or null if it changed since.
     private String known = null;
 
@@ -37,8 +43,24 @@ final class Script {
         return refused;
     }
 
+    boolean hasGiven(String method, int place, String argument) {
+        return given.contains(method + place + " " + argument);
+    }
+
+    /** If it is a sentence "Throws" of a promise, told as its number and its method. */
+    void addDueRefusal(String part, String sentence) {
+        if (sentence.startsWith("Throws ")) {
+            dueRefusals.add(new String[] {part.substring(part.indexOf(' ') + 1), sentence.split(" ")[1]});
+        }
+    }
+
     /** Makes all calls, and tells how many answers were not as due. */
     int run() {
+        for (String[] due : dueRefusals) {
+            if (lines.stream().noneMatch((line) -> line.matches("(\\d+ x )?" + due[0] + "\\(.*! " + due[1]))) {
+                complain("no call of " + due[0], "by " + due[1]);
+            }
+        }
         for (String line : lines) {
             Matcher parts = CALL.matcher(line);
             if (!parts.matches()) {
@@ -64,6 +86,9 @@ final class Script {
             known = Snapshot.of(land);
         }
         answered++;
+        for (int place = 0; place < arguments.size(); place++) {
+            given.add(name + place + " " + arguments.get(place));
+        }
         String got = answer(land, name, arguments);
         String told = name + arguments + " of: " + line;
         if (isRefusal) {
@@ -171,8 +196,13 @@ final class Script {
             case "max": return Integer.MAX_VALUE;
             case "true": return true;
             case "false": return false;
-            default: return told.startsWith("'") ? (Object) told.charAt(1) : (Object) Integer.valueOf(told);
+            default: return told.startsWith("'") || told.startsWith("char") ? (Object) sign(told) : (Object) Integer.valueOf(told);
         }
+    }
+
+    /** 'p', or char112. */
+    private static char sign(String told) {
+        return told.startsWith("'") ? told.charAt(1) : (char) Integer.parseInt(told.substring(4));
     }
 
     private static int texts(RelayedTongues asked) {
