@@ -74,6 +74,9 @@ final class Script {
                 }
             }
         }
+        if (!land.isSound()) {
+            complain("in the end", "not sound");
+        }
         if (!Snapshot.of(land).equals(Snapshot.of(twin)) || !Snapshot.aftermath(land).equals(Snapshot.aftermath(twin))) {
             complain("in the end", "the land is not as without the refused calls");
         }

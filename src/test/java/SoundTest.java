@@ -31,6 +31,9 @@ public final class SoundTest {
         sound(check, "through a relay another sense will do", (texts) -> row(sentence(texts, 4), "senses")[0] = 9);
         broken(check, "through a relay a number will not", (texts) -> row(sentence(texts, 4), "signs")[0] = 1005);
         broken(check, "later than its parent", (texts) -> set(texts.get(0), "year", 2000));
+        broken(check, "later than its parent, which is no original", (texts) -> set(texts.get(2), "year", 102));
+        broken(check, "a word where its parent has a gap, though the original has a word", (texts) -> row(sentence(texts, 3), "signs")[0] = 1);
+        sound(check, "as late as its parent, which is no original", (texts) -> set(texts.get(2), "year", 101));
         sound(check, "as late as its parent", (texts) -> set(texts.get(0), "year", 100));
         check.end();
     }
