@@ -9,6 +9,7 @@ public final class RelayedTongues {
     private static final int SENSES_OF_WORD = 3;
     private static final int FIELD = 6;
     private static final int FIELD_BITS = 63;
+    private static final int PARTICLE_SENSES = 6;
     private static final int TEXTS = 30;
     private static final int SENTENCES = 8;
     private static final int SIGNS = 6;
@@ -1136,7 +1137,7 @@ public final class RelayedTongues {
 
     private boolean isParticle(int sign, int tongue) {
         int first = sign < STANDING ? senseAt(tongue, sign, 0) : NONE;
-        return first != NONE && first < FIELD;
+        return first != NONE && first < PARTICLE_SENSES;
     }
 
     private int thousandths(Text asked, int text, int translator, int all) {
