@@ -364,7 +364,7 @@ public final class RelayedTongues {
         Draws draws = new Draws(seed);
         for (int i = 0; i < source.sentences.size(); i++) {
             Sentence copied = kept(source.sentences.get(i), text, i);
-            miscopy(copied, tongues[source.tongue], rate, draws);
+            miscopy(copied, tongueAt(source.tongue), rate, draws);
             made.sentences.add(copied);
         }
         return addText(made);
@@ -680,7 +680,7 @@ public final class RelayedTongues {
         if (best == NONE) {
             throw new NoSuchElementException("no text of another tongue has it, or its tongue has no words");
         }
-        return unexplained(tongues[asked.tongue].maskOf(best), heard);
+        return unexplained(tongueAt(asked.tongue).maskOf(best), heard);
     }
 
     public int stands(int tongue, int word, int into) throws IndexOutOfBoundsException, IllegalArgumentException, NoSuchElementException {
@@ -792,6 +792,11 @@ public final class RelayedTongues {
 
     private static boolean hasBit(int mask, int bit) {
         return ((mask >> bit) & 1) == 1;
+    }
+
+    /** The tongue of a text or of a translator's way: looked at when that began, and again here as an index. */
+    private Tongue tongueAt(int tongue) {
+        return tongues[isTongue(tongue) ? tongue : 0];
     }
 
     private Text textAt(int text) {
@@ -921,7 +926,7 @@ public final class RelayedTongues {
     }
 
     private int renderedNumber(int number, Rendering pass) {
-        boolean losesNoughts = !tongues[pass.from].hasNought && tongues[pass.into].hasNought && pass.skill < READY_SKILL;
+        boolean losesNoughts = !tongueAt(pass.from).hasNought && tongueAt(pass.into).hasNought && pass.skill < READY_SKILL;
         if (!losesNoughts) {
             return number;
         }
@@ -953,7 +958,7 @@ public final class RelayedTongues {
             result.put(GAP, 'o', NONE);
             return;
         }
-        Tongue vocabulary = tongues[pass.into];
+        Tongue vocabulary = tongueAt(pass.into);
         char letter = 'g';
         int found = pass.translator.school.glossary.countingIn(pass.into, sense, pass.year);
         if (found == NONE) {
@@ -976,7 +981,7 @@ public final class RelayedTongues {
     /** The new word for a sense by the way of the school, or NONE if the word is to be left standing. */
     private int coined(int own, int word, int sense, Rendering pass) {
         char way = pass.translator.school.way;
-        Tongue vocabulary = tongues[pass.into];
+        Tongue vocabulary = tongueAt(pass.into);
         if (way == 'b') {
             return vocabulary.addWord(sense);
         }
@@ -1191,8 +1196,9 @@ public final class RelayedTongues {
         }
         int best = NONE;
         int least = heard + 1;
-        for (int word = 0; word < tongues[tongue].size; word++) {
-            int cost = unexplained(tongues[tongue].maskOf(word), heard);
+        Tongue vocabulary = tongueAt(tongue);
+        for (int word = 0; word < vocabulary.size; word++) {
+            int cost = unexplained(vocabulary.maskOf(word), heard);
             if (cost < least) {
                 least = cost;
                 best = word;
